@@ -99,6 +99,10 @@ public final class ChancesTest {
         resting("AS22M611M802", 1, 0, 1, 10);
         resting("AS40S72M914M701", 0, 1, 1, 11);
         resting("AS50S91M801M821", 0, 1, 3, 0);
+        // A third one leads, whatever they do; gravel does not pay: 3, 3, 2, 2 and 3, 2, 3, 2.
+        resting("AS90M900M900M130", 0, 1, 1, 0);
+        // All but there, so all go one mile: 5, 1, 4, 4 and 1, 4, 1, 0.
+        resting("AS10M530M630", 0, 1, 0, LameLead.NONE);
         LameLead x = Check.of("AS90M500M600");
         CHECK.due("rests(0, 2, 0)", x.rests(0, 2, 0), LameLead.UNKNOWN);
         CHECK.due("rests(2, 0, 0)", x.rests(2, 0, 0), LameLead.UNKNOWN);
@@ -155,26 +159,46 @@ public final class ChancesTest {
         CHECK.due("two steps from 0", x.seed(0), 1442695040888963407L * 6364136223846793005L + 1442695040888963407L);
     }
 
-    /** Seeds by whose first step each lot falls: found by trying them one by one. */
+    private static int lotOf(long seed) {
+        return (int) Long.remainderUnsigned(seed >>> 33, 20);
+    }
+
+    /** A seed by which the first lot is this one and the second a day: found by trying them one by one. */
     private static long seedFor(int lot) {
         for (long seed = 0; seed < 100_000; seed++) {
-            long next = seed * 6364136223846793005L + 1442695040888963407L;
-            if (Long.remainderUnsigned(next >>> 33, 20) == lot) {
+            long first = seed * 6364136223846793005L + 1442695040888963407L;
+            long second = first * 6364136223846793005L + 1442695040888963407L;
+            if (lotOf(first) == lot && lotOf(second) >= 11) {
                 return seed;
             }
         }
         throw new IllegalStateException("no seed for " + lot);
     }
 
+    /** How far they come by each lot (those of days as the last one) and a day behind it. */
+    private static void lots(String text, int... miles) {
+        LameLead x = Check.of(text);
+        for (int lot = 0; lot < 20; lot++) {
+            int first = lot < 11 ? 0 : miles[11];
+            int second = miles[Math.min(lot, 11)] + first;
+            x.seed(seedFor(lot));
+            CHECK.due(text + ": lot " + lot, x.campaigns(1), first);
+            x.seed(seedFor(lot));
+            CHECK.due(text + ": lot " + lot + " and a day", x.campaigns(2), first + second);
+        }
+    }
+
     private static void campaigns() {
         LameLead there = Check.of("AS50M500");
         there.day();
         CHECK.due("at the end", there.campaigns(30), 150);
+        lots("AS90S90M400", 2, 4, 4, 4, 4, 4, 4, 4, 4, 4, 4, 4);
+        lots("AS90S90M501M732", 1, 1, 3, 3, 3, 3, 3, 3, 3, 3, 3, 3);
+        lots("AS90S90M501M900", 1, 3, 3, 3, 3, 5, 3, 3, 3, 3, 5, 3);
+        lots("AS90S90M900M531", 3, 1, 3, 3, 3, 3, 5, 3, 3, 3, 3, 3);
+        lots("AS90S90M400M400M400M400M400", 2, 2, 2, 2, 2, 4, 4, 4, 4, 4, 4, 4);
+        lots("AS90S90M900M900M900M900M931", 7, 7, 7, 7, 5, 7, 7, 7, 7, 9, 7, 7);
         LameLead x = Check.of("AS90S90M400M732");
-        for (int lot = 0; lot < 20; lot++) {
-            x.seed(seedFor(lot));
-            CHECK.due("lot " + lot, x.campaigns(1), lot >= 11 ? 3 : 0);
-        }
         x.seed(12345);
         int together = x.campaigns(30);
         long behind = x.seed(12345);
