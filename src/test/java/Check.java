@@ -41,18 +41,23 @@ final class Check {
         return lead;
     }
 
-    /** All that can be seen without changing it, to compare ahead of and behind a call that is refused. */
+    /**
+     * All that can be seen without changing it, to compare ahead of and behind a call that is refused. Of those
+     * who are not there only the first one is asked for, since an object is good for 512 calls.
+     */
     static String look(LameLead lead) {
         StringBuilder seen = new StringBuilder();
         for (int what = 0; what <= 11; what++) {
             seen.append(lead.about(what)).append(' ');
         }
-        for (int man = 0; man < 5; man++) {
+        int men = Math.min(5, lead.about(1) + 1);
+        for (int man = 0; man < men; man++) {
             for (int what = 0; what < 4; what++) {
                 seen.append(lead.man(man, what)).append(' ');
             }
         }
-        for (int stretch = 0; stretch < 8; stretch++) {
+        int stretches = Math.min(8, lead.about(0) + 1);
+        for (int stretch = 0; stretch < stretches; stretch++) {
             for (int what = 0; what < 3; what++) {
                 seen.append(lead.stretch(stretch, what)).append(' ');
             }

@@ -48,13 +48,15 @@ public final class ModelTest {
         return random.nextInt(most + 1);
     }
 
-    /** Now and then a little or far outside of 0 .. most. */
+    /** Now and then a little or far outside of 0 .. most, or at its edges. */
     private int about(int most) {
-        int outside = random.nextInt(60);
-        if (outside == 0) {
-            return random.nextInt();
+        switch (random.nextInt(80)) {
+            case 0: return random.nextInt();
+            case 1: return random.nextBoolean() ? Integer.MIN_VALUE : Integer.MAX_VALUE;
+            case 2, 3: return random.nextBoolean() ? -1 : most + 1;
+            case 4, 5, 6, 7: return random.nextBoolean() ? 0 : most;
+            default: return upTo(most);
         }
-        return outside < 4 ? random.nextInt(most + 5) - 2 : upTo(most);
     }
 
     private String randomText() {
