@@ -475,6 +475,10 @@ public final class OutlookEdgesTest {
         CHECK.due("fourth", x.judge(4, 300L), 3);
         CHECK.due("none", x.judge(4, 0L), LameLead.NONE);
         CHECK.due("the last of one", x.judge(1, 300L), 0);
+        for (int n = 3; n >= 1; n--) {
+            x.judge(4, 300_300_300_300L);
+            CHECK.due("what was told of more does not count for " + n, x.judge(n, 0L), LameLead.NONE);
+        }
         CHECK.due("nothing changed", x.about(4), 0);
         CHECK.due("no acts", x.about(9), 0);
     }
