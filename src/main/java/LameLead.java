@@ -1021,11 +1021,14 @@ public final class LameLead {
             }
         }
 
+        private static int hasBy(int[] has, int pair) {
+            return pair >= 0 && pair < has.length ? has[pair] : 0;
+        }
+
+        /** The one's other choice changes the upper bit of a pair, the other's the lower one. */
         private boolean isRest(int pair) {
-            if (pair < 0 || pair >= oneHas.length || pair >= otherHas.length) {
-                return false;
-            }
-            return oneHas[pair ^ 2] <= oneHas[pair] && otherHas[pair ^ 1] <= otherHas[pair];
+            return hasBy(oneHas, pair ^ 2) <= hasBy(oneHas, pair)
+                && hasBy(otherHas, pair ^ 1) <= hasBy(otherHas, pair);
         }
 
         int restCount() {
